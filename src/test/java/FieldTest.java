@@ -54,6 +54,9 @@ public final class FieldTest {
         x.pass(0, 0);
         check.same("overlap after three", x.overlap(0), 3 + 6);
         check.same("mostSown after three", x.mostSown(0), 3);
+        DrillContest corner = Check.loaded("field 2 2;drill a 1 0;");
+        corner.handSow(0, 0, 0);
+        check.same("mostSown in the corner", corner.mostSown(0), 1);
         check.same("SOIL counts sown cells", x.cellsOf(0, DrillContest.SOIL), 9);
     }
 
@@ -69,6 +72,8 @@ public final class FieldTest {
         x.clearStone(0, 1, 0);
         check.same("clusters after clearing", x.stoneClusters(0), 4);
         check.same("largest after clearing", x.largestCluster(0), 3);
+        x.clearStone(0, 2, 3);
+        check.same("largest gets less", x.largestCluster(0), 1);
         // The right end of a row is no neighbour of the left end of the next one.
         DrillContest y = Check.loaded("field 2 24;stone 0 23;stone 1 0;drill a 1 0;");
         check.same("no way round the edge", y.stoneClusters(0), 2);
@@ -119,6 +124,8 @@ public final class FieldTest {
         check.same("then row 1", x.emptiestRow(0), 1);
         x.pass(0, 0);
         x.pass(0, 1);
+        DrillContest last = Check.loaded("field 3 2;wet 0 0 1 1;stone 2 0;drill a 1 0;");
+        check.same("one cell is enough", last.emptiestRow(0), 2);
         check.same("none is emptiest", x.emptiestRow(0), -1);
         check.same("column all sown", x.unsownInColumn(0, 5), 0);
         DrillContest wide = Check.loaded("field 1 24;drill a 1 0;");

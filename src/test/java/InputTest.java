@@ -17,6 +17,7 @@ public final class InputTest {
         nameErrors();
         failedLoadKeepsContest();
         loadForgetsActions();
+        manyLoads();
         check.close("InputTest");
     }
 
@@ -148,6 +149,10 @@ public final class InputTest {
         bad("  \n", SYNTAX, 3);
         bad(" stone 1 1;", SYNTAX, 1);
         bad("fields 4 6;", SYNTAX, 0);
+        bad("xield 4 6;", SYNTAX, 0);
+        bad("fiel", SYNTAX, 0);
+        bad("field 4 6;xtone 1 1;", SYNTAX, 10);
+        bad("field 4 6;drill a 1 1 xontrol;", SYNTAX, 22);
         bad("Field 4 6;", SYNTAX, 0);
         bad("\0field 4 6;", SYNTAX, 0);
         bad("field", SYNTAX, 5);
@@ -250,6 +255,19 @@ public final class InputTest {
         check.same("good load", x.load(), 1);
         check.same("error gone", x.errorOffset(), -1);
         check.same("kind gone", x.errorKind(), 0);
+    }
+
+    private static void manyLoads() {
+        DrillContest x = new DrillContest();
+        for (int k = 0; k < 6; k++) {
+            Check.feed(x, "field 3 4;drill a 2 1;drill b 1 0;");
+            check.same("load " + k, x.load(), 2);
+            check.same("field " + k, Check.field(x, 1), "..../..../....");
+            check.same("cost " + k, x.cost(1), 0);
+            check.same("position " + k, x.position(1), -1);
+            check.same("passes " + k, x.passCount(1), 0);
+            x.pass(1, 2);
+        }
     }
 
     private static void loadForgetsActions() {

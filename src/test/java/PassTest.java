@@ -60,6 +60,13 @@ public final class PassTest {
         check.same("columns of c at 2", x.loweredColumns(2, 2), 6);
         check.same("stones under c at 2", x.stonesUnder(2, 2), 0);
 
+        DrillContest edges = Check.loaded("field 3 24;wet 0 1 2 23;stone 2 0;drill a 2 0 control;drill b 1 0;");
+        check.same("only column 0, first", edges.firstLowered(0, 0), 0);
+        check.same("only column 0, last", edges.lastLowered(0, 0), 0);
+        check.same("no stones below the pass", edges.stonesUnder(0, 0), 0);
+        check.same("a stone under the pass", edges.stonesUnder(0, 1), 1);
+        check.same("no stones above the pass", edges.stonesUnder(1, 1), 0);
+
         DrillContest stones = Check.loaded("field 1 2;stone 0 0;stone 0 1;drill a 1 0;drill b 1 0 control;");
         for (int k = 0; k < 2; k++) {
             check.same("no lowering", stones.lowerings(k, 0), 0);
@@ -173,6 +180,10 @@ public final class PassTest {
         check.same("then in column 1", x.stoneToClear(0), 1);
         DrillContest none = Check.loaded("field 3 3;wet 0 0 0 0;drill a 2 0;");
         check.same("no stones", none.stoneToClear(0), -1);
+        DrillContest full = Check.loaded("field 12 24;drill a 2 0;");
+        check.same("no stones in the largest field", full.stoneToClear(0), -1);
+        DrillContest last = Check.loaded("field 12 24;stone 11 23;drill a 2 0;");
+        check.same("the last cell", last.stoneToClear(0), 287);
         // Clearing may make it worse: the cleared cell itself is out of reach.
         DrillContest y = Check.loaded("field 2 2;stone 0 0;stone 1 0;stone 0 1;drill a 2 0;");
         check.same("not the worse one", y.stoneToClear(0), 1);

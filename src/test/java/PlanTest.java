@@ -40,28 +40,39 @@ public final class PlanTest {
     }
 
     private static void ties() {
-        // Five rows, width 2: three passes with 4 cells of overlap each way; 0 1 3, 0 2 3 are even.
+        // Five rows, width 2: three passes with 4 cells of overlap; 0 1 3 and 0 2 3 are even.
         DrillContest x = Check.loaded("field 5 4;drill a 2 0;");
         check.same("lowest bit set", x.plan(0), 11);
         // A pass over nothing but wet and stones adds no overlap; the plan must still do without it.
         DrillContest y = Check.loaded("field 3 2;wet 0 0 1 1;drill a 1 0;");
         check.same("no needless pass", y.plan(0), 4);
-        // Least overlap goes before fewest passes: row 1 is full, tops 0 and 1 would sow it twice.
         DrillContest z = Check.loaded("field 4 2;wet 0 1 0 1;drill a 2 0;");
         z.handSow(0, 1, 0);
         z.handSow(0, 1, 1);
         // Rows 2 and 3 by top 2; (0,0) by top 0 alone.
         check.same("all that is needed", z.plan(0), 5);
         check.same("with its overlap", z.planOverlap(0), 2);
-        // Width 2 on 3 rows with column 0 wet in row 1 and 2: two passes either way.
         DrillContest w = Check.loaded("field 6 3;drill a 3 0;");
         check.same("fewest passes", w.plan(0), 9);
-        // One pass over the middle would do but sows the sown rows again; two at the edges do not exist.
         DrillContest v = Check.loaded("field 4 1;wet 3 0 3 0;drill a 2 0;");
         v.handSow(0, 1, 0);
         // (0,0) by top 0 (1 again); (2,0) by top 1 (1 again) or by top 2 (none again).
         check.same("less overlap", v.plan(0), 5);
         check.same("its overlap", v.planOverlap(0), 1);
+        // Top 0 would sow row 0 again, top 1 sows nothing but row 1.
+        DrillContest u = Check.loaded("field 3 1;wet 2 0 2 0;drill a 2 0;");
+        u.handSow(0, 0, 0);
+        check.same("not the lowest, but less overlap", u.plan(0), 2);
+        // Column 0 is ~..~ and needs top 1, or tops 0 and 2. Column 1 is #11#: only top 1 sows it again.
+        DrillContest t = Check.loaded("field 4 2;wet 0 0 0 0;wet 3 0 3 0;stone 0 1;stone 3 1;drill a 2 0;");
+        check.same("one pass for both columns", t.plan(0), 2);
+        t.handSow(0, 1, 1);
+        t.handSow(0, 2, 1);
+        check.same("less overlap by more passes", t.planOverlap(0), 0);
+        check.same("more passes", t.plan(0), 5);
+        // Without column 1 both ways have the same overlap.
+        DrillContest s = Check.loaded("field 4 1;wet 0 0 0 0;wet 3 0 3 0;drill a 2 0;");
+        check.same("fewest of equals", s.plan(0), 2);
     }
 
     private static String order(DrillContest x, int drill) {
@@ -93,6 +104,14 @@ public final class PlanTest {
         x.pass(0, 1);
         // 0 2 3 costs 1 + 2 + 1, and so does no other order: 2 3 0 costs 1 + 1 + 3.
         check.same("from position 1", order(x, 0), "0 2 3");
+        // Plans of 4, 2 and again 4 passes, one after the other on the same object.
+        DrillContest mixed = Check.loaded("field 4 2;drill a 1 1;drill b 2 0;");
+        for (int k = 0; k < 3; k++) {
+            check.same("four passes", order(mixed, 0), "0 2 1 3");
+            check.same("turns of four passes", mixed.planTurns(0), 22);
+            check.same("turns of two passes", mixed.planTurns(1), 7);
+            check.same("overlap of the other", mixed.planOverlap(0), 0);
+        }
         DrillContest one = Check.loaded("field 4 2;drill a 4 3;");
         check.same("one pass has no turn", one.planTurns(0), 0);
         check.same("one pass", order(one, 0), "0");
