@@ -309,12 +309,16 @@ public final class DrillContest {
     }
 
     public int planTurns(int drill) throws IndexOutOfBoundsException {
-        planner.chooseAndOrder(contest, drillOf(drill));
+        Drill chosen = drillOf(drill);
+        planner.choose(chosen);
+        planner.arrange(contest, chosen);
         return planner.turns;
     }
 
     public int planTop(int drill, int k) throws IndexOutOfBoundsException {
-        planner.chooseAndOrder(contest, drillOf(drill));
+        Drill chosen = drillOf(drill);
+        planner.choose(chosen);
+        planner.arrange(contest, chosen);
         return planner.topInOrder(k);
     }
 
@@ -342,7 +346,8 @@ public final class DrillContest {
 
     public int costToFinish(int drill) throws IndexOutOfBoundsException {
         Drill chosen = drillOf(drill);
-        planner.chooseAndOrder(contest, chosen);
+        planner.choose(chosen);
+        planner.arrange(contest, chosen);
         trial.copyFrom(chosen);
         planner.carryOut(contest, trial);
         return trial.cost - chosen.cost + contest.hand * trial.countUnsown();
@@ -401,7 +406,8 @@ public final class DrillContest {
 
     public int carryOutPlan(int drill) throws IndexOutOfBoundsException, IllegalStateException {
         Drill chosen = drillOf(drill);
-        planner.chooseAndOrder(contest, chosen);
+        planner.choose(chosen);
+        planner.arrange(contest, chosen);
         if (planner.chosenSet == 0) {
             throw new IllegalStateException("no pass is needed");
         }
@@ -691,18 +697,14 @@ public final class DrillContest {
                 return false;
             }
             int radius = value;
-            into.addDrill(name, width, radius, parseControl());
-            return true;
-        }
-
-        /** Takes the word "control" if it comes next; anything else is left for the semicolon. */
-        private boolean parseControl() {
             readWord();
-            if (wordIs("control")) {
-                return true;
+            boolean control = wordIs("control");
+            if (!control) {
+                // Any other word stands where the semicolon should, and is found wrong there.
+                at = tokenStart;
             }
-            at = tokenStart;
-            return false;
+            into.addDrill(name, width, radius, control);
+            return true;
         }
 
         private boolean parseScore() {
@@ -1360,6 +1362,10 @@ public final class DrillContest {
         private int needTotal;
         // The least sum of turns through a set of members, from a member on; it grows with the plans.
         private int[] turnsLeft = new int[0];
+        // What turnsLeft was measured for: a plan is often asked for many times.
+        private int measuredSet;
+        private int measuredRadius;
+        private int measuredTurn;
         int chosenSet;
         int size;
         int turns;
@@ -1441,8 +1447,8 @@ public final class DrillContest {
             return true;
         }
 
-        void chooseAndOrder(Contest contest, Drill drill) {
-            choose(drill);
+        /** Finds the best order of the plan that was chosen last, which must be this drill's. */
+        void arrange(Contest contest, Drill drill) {
             listMembers();
             measureTurns(contest, drill);
             followCheapest(contest, drill);
@@ -1458,7 +1464,17 @@ public final class DrillContest {
             }
         }
 
+        private int memberAt(int k) {
+            return k >= 0 && k < members.length ? members[k] : 0;
+        }
+
         private void measureTurns(Contest contest, Drill drill) {
+            if (chosenSet == measuredSet && drill.radius == measuredRadius && contest.turn == measuredTurn) {
+                return;
+            }
+            measuredSet = chosenSet;
+            measuredRadius = drill.radius;
+            measuredTurn = contest.turn;
             int room = size << size;
             if (turnsLeft.length < room) {
                 turnsLeft = new int[room];
@@ -1476,7 +1492,7 @@ public final class DrillContest {
             int least = NONE;
             for (int next = 0; next < size; next++) {
                 if (hasMember(set, next)) {
-                    int sum = contest.turnPrice(drill, members[from], members[next]) + turnsFrom(set, next);
+                    int sum = contest.turnPrice(drill, memberAt(from), memberAt(next)) + turnsFrom(set, next);
                     least = least == NONE ? sum : Math.min(least, sum);
                 }
             }
@@ -1488,12 +1504,12 @@ public final class DrillContest {
             turns = 0;
             int position = drill.position;
             int set = (1 << size) - 1;
-            for (int step = 0; step < size; step++) {
+            for (int step = 0; step < size && step < order.length; step++) {
                 int best = NONE;
                 int least = 0;
                 for (int next = 0; next < size; next++) {
                     if (hasMember(set, next)) {
-                        int sum = turnTo(contest, drill, position, members[next]) + turnsFrom(set, next);
+                        int sum = turnTo(contest, drill, position, memberAt(next)) + turnsFrom(set, next);
                         if (best == NONE || sum < least) {
                             best = next;
                             least = sum;
@@ -1503,8 +1519,8 @@ public final class DrillContest {
                 if (best == NONE) {
                     return;
                 }
-                turns += turnTo(contest, drill, position, members[best]);
-                position = members[best];
+                turns += turnTo(contest, drill, position, memberAt(best));
+                position = memberAt(best);
                 order[step] = position;
                 set &= ~(1 << best);
             }
