@@ -1568,6 +1568,9 @@ public final class DrillContest {
         }
 
         void keep(int index, Drill drill) {
+            if (next < 0 || next >= before.length || next >= changed.length) {
+                return;
+            }
             before[next].copyFrom(drill);
             changed[next] = index;
             next = (next + 1) % MAX_UNDO;
@@ -1577,6 +1580,9 @@ public final class DrillContest {
         void takeBack(Contest contest) {
             next = (next + MAX_UNDO - 1) % MAX_UNDO;
             depth--;
+            if (next < 0 || next >= before.length || next >= changed.length) {
+                return;
+            }
             int index = changed[next];
             if (index >= 0 && index < contest.drills.length) {
                 contest.drills[index].copyFrom(before[next]);

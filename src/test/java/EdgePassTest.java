@@ -201,6 +201,9 @@ public final class EdgePassTest {
         waste.handSow(0, 0, 1);
         waste.handSow(0, 2, 1);
         check.same("43 equal gain, the least waste", waste.bestTop(0), 1);
+        DrillContest thin = Check.loaded("field 3 1;wet 2 0 2 0;drill a 2 0;");
+        thin.handSow(0, 0, 0);
+        check.same("43 equal gain of 1, the least waste", thin.bestTop(0), 1);
         // Top 0 gains 2 without waste, top 1 gains 3 and wastes 1: the gain counts first.
         DrillContest gain = Check.loaded("field 3 2;wet 0 0 0 1;drill a 2 0;");
         gain.handSow(0, 2, 0);
@@ -311,6 +314,14 @@ public final class EdgePassTest {
         DrillContest y = Check.loaded("field 3 24;drill a 2 0;");
         check.same("47 both passes", y.plan(0), 3);
         check.same("48 a row twice", y.planOverlap(0), 24);
+        // Rows 1, 2 and 4 of column 0 need tops 0 2 3, or top 1 and another one; but only top 1 sows
+        // column 1 again. The sets with top 1 are lower as well as higher ones: {1, 3} and {1, 4}.
+        DrillContest z = Check.loaded("field 6 2;wet 0 0 0 0;wet 3 0 3 0;wet 5 0 5 0;stone 0 1;stone 3 1;wet 4 1 5 1;drill a 2 0;");
+        check.same("47 two passes", z.plan(0), 10);
+        z.handSow(0, 1, 1);
+        z.handSow(0, 2, 1);
+        check.same("47 three passes", z.plan(0), 13);
+        check.same("48 three passes", z.planOverlap(0), 0);
     }
 
     private static void fewestPasses() {

@@ -17,6 +17,7 @@ public final class EdgeTextTest {
         appendFull();
         truncateEdges();
         truncateKeepsFirstBytes();
+        nothingBehindTheEnd();
         loadAnswers();
         loadStartsAnew();
         errorOfLatestLoad();
@@ -155,6 +156,32 @@ public final class EdgeTextTest {
         check.same("3 load of both", x.load(), 0);
         check.same("3 rows behind the cut", x.rowCount(), 5);
         check.same("3 columns behind the cut", x.columnCount(), 7);
+    }
+
+    /** What was cut off, or loaded before, is not behind the end of the text, though it once stood there. */
+    private static void nothingBehindTheEnd() {
+        String text = "field 4 6;turn 1;turn 2;";
+        for (int length : new int[] {9, 15, 22, 23}) {
+            DrillContest x = new DrillContest();
+            Check.feed(x, text);
+            x.truncate(length);
+            check.badArgument("3 cut at " + length, x::load);
+            check.same("5 cut at " + length, x.errorOffset(), length);
+            check.same("6 cut at " + length, x.errorKind(), SYNTAX);
+            Check.feed(x, text);
+            check.same("4 the whole text", x.load(), 0);
+            x.append(0x6669656c, 0x64203420, 0x36202020, 0, 0);
+            x.truncate(9);
+            check.badArgument("4 a shorter text than before", x::load);
+            check.same("5 a shorter text than before", x.errorOffset(), 9);
+        }
+        DrillContest cut = new DrillContest();
+        Check.feed(cut, "field 12 24;");
+        cut.truncate(7);
+        cut.append(0x2039203b, BLANKS, BLANKS, BLANKS, BLANKS);
+        check.same("3 a number that was cut", cut.load(), 0);
+        check.same("8 its first digit", cut.rowCount(), 1);
+        check.same("9 the number behind it", cut.columnCount(), 9);
     }
 
     // ---- promises 4 to 9: load
