@@ -1359,6 +1359,10 @@ public final class DrillContest {
         private final int[] sowings = new int[MAX_ROWS];
         private final int[] members = new int[MAX_ROWS];
         private final int[] order = new int[MAX_ROWS];
+        private final int[] prices = new int[MAX_ROWS];
+        private final int[] nextTops = new int[MAX_ROWS];
+        private final int[] nextTurns = new int[MAX_ROWS];
+        private int nextTotal;
         private int needTotal;
         // The least sum of turns through a set of members, from a member on; it grows with the plans.
         private int[] turnsLeft = new int[0];
@@ -1479,21 +1483,43 @@ public final class DrillContest {
             if (turnsLeft.length < room) {
                 turnsLeft = new int[room];
             }
+            priceTurns(contest, drill);
             for (int set = 0; set < 1 << size; set++) {
+                listNext(set);
                 for (int from = 0; from < size; from++) {
                     if (!hasMember(set, from)) {
-                        putTurns(set, from, leastTurns(contest, drill, set, from));
+                        putTurns(set, from, leastTurns(memberAt(from)));
                     }
                 }
             }
         }
 
-        private int leastTurns(Contest contest, Drill drill, int set, int from) {
-            int least = NONE;
+        private void priceTurns(Contest contest, Drill drill) {
+            for (int apart = 0; apart < MAX_ROWS; apart++) {
+                prices[apart] = contest.turnPrice(drill, 0, apart);
+            }
+        }
+
+        /** What follows a next pass is the same wherever the drill comes from, so it is looked up once. */
+        private void listNext(int set) {
+            nextTotal = 0;
             for (int next = 0; next < size; next++) {
-                if (hasMember(set, next)) {
-                    int sum = contest.turnPrice(drill, memberAt(from), memberAt(next)) + turnsFrom(set, next);
-                    least = least == NONE ? sum : Math.min(least, sum);
+                if (hasMember(set, next) && nextTotal < MAX_ROWS) {
+                    nextTops[nextTotal] = memberAt(next);
+                    nextTurns[nextTotal] = turnsFrom(set, next);
+                    nextTotal++;
+                }
+            }
+        }
+
+        /** The least sum of turns from a top row through the passes that were listed last. */
+        private int leastTurns(int top) {
+            int least = NONE;
+            for (int k = 0; k < nextTotal && k < MAX_ROWS; k++) {
+                int apart = Math.abs(top - nextTops[k]);
+                int sum = (apart >= 0 && apart < MAX_ROWS ? prices[apart] : 0) + nextTurns[k];
+                if (least == NONE || sum < least) {
+                    least = sum;
                 }
             }
             return Math.max(0, least);
